@@ -9,7 +9,10 @@ public final class BeatenInstead {
     private static final int MOST_LESSONS = 5, MOST_BLOWS = 5;
     private static final int MOST_PRINCES = 3, BOYS = 3, MOST_WIT = 9;
     private static final int MOST_FOND = 9, FOND_AT_FIRST = 5, FONDER = 1, COLDER = 2;
+
+    /** TENTHS by which one is sure to learn: the whole, in all that is likely. */
     private static final int SURE = 10;
+
     private static final int MOST_HEARD = 6, MOST_ORDERS = 20, MOST_TIMES = 20;
     private static final int MOST_STRIPES_MORE = MOST_LESSONS * MOST_BLOWS;
 
@@ -23,7 +26,7 @@ public final class BeatenInstead {
     private static final int[] MATCHES = {0, 1, 2, 0, 2, 1, 1, 0, 2, 1, 2, 0, 2, 0, 1, 2, 1, 0};
 
     private static final long FACTOR = 1103515245L, ADDEND = 12345L, SEED_BITS = 0x7fffffffL;
-    private static final int DRAW_SHIFT = 65536;
+    private static final int DRAW_DIVISOR = 65536;
     private static final int MOST_DIVISIONS = 100;
     private static final int COUNTS = 9;
 
@@ -400,11 +403,11 @@ public final class BeatenInstead {
     }
 
     private static boolean isMeanOrRow(int what, int length) {
-        return what == 0 || what == 1 || what >= ROW && what < ROW + length;
+        return what == 0 || what == 1 || (what >= ROW && what < ROW + length);
     }
 
     private static boolean isIn(int bits, int number) {
-        return (bits >> number & 1) != 0;
+        return ((bits >> number) & 1) != 0;
     }
 
     /** The PRINCE of that number, null if there is none. */
@@ -445,11 +448,11 @@ public final class BeatenInstead {
         }
     }
 
-    /** Where in MATCHES the row begins by which the fewest BLOWS are to be looked for. */
+    /** Where in MATCHES the first row begins by which fewest BLOWS are to be looked for. */
     private int bestMatch(int lesson) {
         int best = 0;
-        int fewest = Integer.MAX_VALUE;
-        for (int row = 0; row < MATCHES.length; row += BOYS) {
+        int fewest = failTenths(lesson, best);
+        for (int row = BOYS; row < MATCHES.length; row += BOYS) {
             int tenths = failTenths(lesson, row);
             if (tenths < fewest) {
                 fewest = tenths;
@@ -491,7 +494,7 @@ public final class BeatenInstead {
         for (int lesson = 0; who != null && lesson < text.lessons; lesson++) {
             if (!isIn(trial.learntBy(prince), lesson)) {
                 seedThen = nextSeed(seedThen);
-                int draw = seedThen / DRAW_SHIFT % SURE;
+                int draw = (seedThen / DRAW_DIVISOR) % SURE;
                 int tenths = text.tenthsFor(who, trial.fondOfHisBoy(prince), lesson);
                 setLesson(trial, prince, lesson, draw < tenths);
             }
@@ -500,7 +503,7 @@ public final class BeatenInstead {
     }
 
     private static int nextSeed(int seed) {
-        return (int) (FACTOR * seed + ADDEND & SEED_BITS);
+        return (int) ((FACTOR * seed + ADDEND) & SEED_BITS);
     }
 
     /** Of a fraction in lowest terms: what = 0 the number above, else the one below. */
@@ -599,7 +602,7 @@ public final class BeatenInstead {
                 case 1:
                     return isDigit(place, 1, MOST_BLOWS);
                 default:
-                    return codeAt(place) == ';' || codeAt(place) == ',' && place < LAST_MARK;
+                    return codeAt(place) == ';' || (codeAt(place) == ',' && place < LAST_MARK);
             }
         }
 
@@ -687,12 +690,10 @@ public final class BeatenInstead {
             super(wit);
         }
 
-        @Override
         int kind() {
             return KIND_PROUD;
         }
 
-        @Override
         int feels(int fond) {
             return fond < PRIDE ? 0 : fond;
         }
@@ -703,12 +704,10 @@ public final class BeatenInstead {
             super(wit);
         }
 
-        @Override
         int kind() {
             return KIND_CRUEL;
         }
 
-        @Override
         int feels(int fond) {
             return MOST_FOND - fond;
         }
@@ -719,12 +718,10 @@ public final class BeatenInstead {
             super(wit);
         }
 
-        @Override
         int kind() {
             return KIND_LAZY;
         }
 
-        @Override
         int feels(int fond) {
             return fond / 2;
         }
@@ -735,12 +732,10 @@ public final class BeatenInstead {
             super(wit);
         }
 
-        @Override
         int kind() {
             return KIND_HIGH;
         }
 
-        @Override
         int feels(int fond) {
             return super.feels(fond) + HEIGHT;
         }
@@ -843,7 +838,7 @@ public final class BeatenInstead {
         }
 
         private void learn(int prince, int lesson) {
-            put(learnt, prince, learntBy(prince) | 1 << lesson);
+            put(learnt, prince, learntBy(prince) | (1 << lesson));
         }
 
         private void beat(int prince, int blows, int limit) {
@@ -876,7 +871,7 @@ public final class BeatenInstead {
                     whole *= SURE;
                 }
             }
-            bestMean = Long.MAX_VALUE;
+            bestMean = NONE;
             arrange(who, fond, stripes, 0, learnt);
         }
 
@@ -884,7 +879,7 @@ public final class BeatenInstead {
         private void arrange(Prince who, int fond, int stripes, int place, int taken) {
             if (place >= size) {
                 long mean = meanFrom(who, fond, stripes, 0, whole);
-                if (mean < bestMean) {
+                if (bestMean == NONE || mean < bestMean) {
                     bestMean = mean;
                     copy(path, best);
                 }
@@ -893,7 +888,7 @@ public final class BeatenInstead {
             for (int lesson = 0; lesson < text.lessons; lesson++) {
                 if (!isIn(taken, lesson)) {
                     put(path, place, lesson);
-                    arrange(who, fond, stripes, place + 1, taken | 1 << lesson);
+                    arrange(who, fond, stripes, place + 1, taken | (1 << lesson));
                 }
             }
         }
@@ -964,7 +959,7 @@ public final class BeatenInstead {
             if (canBe(tenths, false)) {
                 int stripesNext = stripes + text.blowsOf(lesson);
                 int fondNext = fondAfterBlows(fond, stripesNext, text.limit);
-                follow(who, lesson + 1, fondNext, stripesNext, failed | 1 << lesson);
+                follow(who, lesson + 1, fondNext, stripesNext, failed | (1 << lesson));
             }
         }
     }

@@ -47,7 +47,7 @@ public final class FaceTest {
         for (Method method : BeatenInstead.class.getDeclaredMethods()) {
             if (!Modifier.isPublic(method.getModifiers())) {
                 due.isTrue(method + " is private", Modifier.isPrivate(method.getModifiers()));
-                due.isTrue(method + " bears a public one's name", !names.contains(method.getName()));
+                due.isTrue(method + " bears no public one's name", !names.contains(method.getName()));
             }
         }
     }
