@@ -271,7 +271,7 @@ final class Model {
         return all;
     }
 
-    /** What comes of the lessons in that order if just those at the bits fail: how likely (in 10 to their number), stripes more. */
+    /** What comes of that order if just those at the bits fail: how likely (in 10 to their number), stripes more. */
     private long[] outcome(int[] row, List<Integer> order, int bits) {
         int fond = row[FOND + row[BOY]];
         int had = now.stripes[row[BOY]];
