@@ -187,7 +187,9 @@ final class SentencesOfSchool {
         Made.type(x, "93;7");
         say.is("school()", 1, x.school());
         say.is("PRINCES", 0, x.count(2));
-        say.is("about(0, 0)", UNKNOWN, x.about(0, 0));
+        for (int prince = 0; prince < 3; prince++) {
+            say.is("about(" + prince + ", 0)", UNKNOWN, x.about(prince, 0));
+        }
         say.is("LESSONS", 1, x.count(0));
         say.is("lesson(1, 0)", UNKNOWN, x.lesson(1, 0));
         say.is("who LEARNT", 0, x.lesson(0, 2));

@@ -745,6 +745,7 @@ final class SentencesOfTerms {
         say.is("restore()", 1, x.restore());
         say.is("digest(), as it was", before, x.digest());
         say.refused("about() of one who came since", UNKNOWN, x, () -> x.about(1, 0));
+        say.refused("about() of another who came since", UNKNOWN, x, () -> x.about(2, 0));
         say.is("his number is another one's", 1, x.prince(3, 1));
         say.is("who is of his own kind", 3, x.about(1, 0));
         say.is("as FOND as at first", 5, x.about(1, 11));
