@@ -36,8 +36,8 @@ public final class BeatenInstead {
     private final Standing now = new Standing();
     private final Standing kept = new Standing();
     private final Standing trial = new Standing();
-    private final Ordering ordering = new Ordering(text);
-    private final Blame blame = new Blame(text);
+    private final Ordering ordering = new Ordering();
+    private final Blame blame = new Blame();
     private boolean hasImage = false;
     private int timesRead = 0;
     private int timesOrdered = 0;
@@ -207,7 +207,7 @@ public final class BeatenInstead {
         }
         timesOrdered++;
         int boy = now.boyOf(prince);
-        ordering.find(who, now.learntBy(prince), now.fondOf(prince, boy), now.stripesOf(boy));
+        ordering.find(text, who, now.learntBy(prince), now.fondOf(prince, boy), now.stripesOf(boy));
         if (what >= ROW) {
             return ordering.lessonAt(what - ROW);
         }
@@ -240,7 +240,7 @@ public final class BeatenInstead {
         }
         int boy = now.boyOf(prince);
         int had = now.stripesOf(boy);
-        blame.find(who, now.learntBy(prince), now.fondOf(prince, boy), had, had + stripes);
+        blame.find(text, who, now.learntBy(prince), now.fondOf(prince, boy), had, had + stripes);
         if (what == 0) {
             return blame.sets;
         }
@@ -574,7 +574,7 @@ public final class BeatenInstead {
         }
 
         private int digitAt(int place) {
-            return codeAt(place) - '0';
+            return at(codes, place) - '0';
         }
 
         private int firstFault() {
@@ -851,18 +851,13 @@ public final class BeatenInstead {
 
     /** The search for ORDER. Means are whole numbers, told in parts of 10 to the LESSONS set. */
     private static final class Ordering {
-        private final Text text;
         private final int[] path = new int[MOST_LESSONS];
         private final int[] best = new int[MOST_LESSONS];
         private int size = 0;
         private long whole = 1;
         private long bestMean = 0;
 
-        private Ordering(Text text) {
-            this.text = text;
-        }
-
-        private void find(Prince who, int learnt, int fond, int stripes) {
+        private void find(Text text, Prince who, int learnt, int fond, int stripes) {
             size = 0;
             whole = 1;
             for (int lesson = 0; lesson < text.lessons; lesson++) {
@@ -872,13 +867,13 @@ public final class BeatenInstead {
                 }
             }
             bestMean = NONE;
-            arrange(who, fond, stripes, 0, learnt);
+            arrange(text, who, fond, stripes, 0, learnt);
         }
 
         /** Goes through all orders by numbers, so that of like ones the first is kept. */
-        private void arrange(Prince who, int fond, int stripes, int place, int taken) {
+        private void arrange(Text text, Prince who, int fond, int stripes, int place, int taken) {
             if (place >= size) {
-                long mean = meanFrom(who, fond, stripes, 0, whole);
+                long mean = meanFrom(text, who, fond, stripes, 0, whole);
                 if (bestMean == NONE || mean < bestMean) {
                     bestMean = mean;
                     copy(path, best);
@@ -888,13 +883,13 @@ public final class BeatenInstead {
             for (int lesson = 0; lesson < text.lessons; lesson++) {
                 if (!isIn(taken, lesson)) {
                     put(path, place, lesson);
-                    arrange(who, fond, stripes, place + 1, taken | (1 << lesson));
+                    arrange(text, who, fond, stripes, place + 1, taken | (1 << lesson));
                 }
             }
         }
 
         /** The mean of BLOWS from that place of the path on, in parts of so much as is the whole there. */
-        private long meanFrom(Prince who, int fond, int stripes, int place, long wholeHere) {
+        private long meanFrom(Text text, Prince who, int fond, int stripes, int place, long wholeHere) {
             if (place >= size) {
                 return 0;
             }
@@ -903,13 +898,13 @@ public final class BeatenInstead {
             long wholeNext = wholeHere / SURE;
             long mean = 0;
             if (canBe(tenths, true)) {
-                mean += tenths * meanFrom(who, fond, stripes, place + 1, wholeNext);
+                mean += tenths * meanFrom(text, who, fond, stripes, place + 1, wholeNext);
             }
             if (canBe(tenths, false)) {
                 int blows = text.blowsOf(lesson);
                 int stripesThen = stripes + blows;
                 int fondThen = fondAfterBlows(fond, stripesThen, text.limit);
-                long later = meanFrom(who, fondThen, stripesThen, place + 1, wholeNext);
+                long later = meanFrom(text, who, fondThen, stripesThen, place + 1, wholeNext);
                 mean += (SURE - tenths) * (blows * wholeNext + later);
             }
             return mean;
@@ -922,25 +917,20 @@ public final class BeatenInstead {
 
     /** The search for FAULTS. */
     private static final class Blame {
-        private final Text text;
         private int learnt = 0;
         private int goal = 0;
         private int sets = 0;
         private int inAll = 0;
 
-        private Blame(Text text) {
-            this.text = text;
-        }
-
-        private void find(Prince who, int learntBefore, int fond, int stripes, int stripesThen) {
+        private void find(Text text, Prince who, int learntBefore, int fond, int stripes, int stripesThen) {
             learnt = learntBefore;
             goal = stripesThen;
             sets = 0;
             inAll = -1;
-            follow(who, 0, fond, stripes, 0);
+            follow(text, who, 0, fond, stripes, 0);
         }
 
-        private void follow(Prince who, int lesson, int fond, int stripes, int failed) {
+        private void follow(Text text, Prince who, int lesson, int fond, int stripes, int failed) {
             if (lesson >= text.lessons) {
                 if (stripes == goal) {
                     sets++;
@@ -949,17 +939,17 @@ public final class BeatenInstead {
                 return;
             }
             if (isIn(learnt, lesson)) {
-                follow(who, lesson + 1, fond, stripes, failed);
+                follow(text, who, lesson + 1, fond, stripes, failed);
                 return;
             }
             int tenths = text.tenthsFor(who, fond, lesson);
             if (canBe(tenths, true)) {
-                follow(who, lesson + 1, fond, stripes, failed);
+                follow(text, who, lesson + 1, fond, stripes, failed);
             }
             if (canBe(tenths, false)) {
                 int stripesNext = stripes + text.blowsOf(lesson);
                 int fondNext = fondAfterBlows(fond, stripesNext, text.limit);
-                follow(who, lesson + 1, fondNext, stripesNext, failed | (1 << lesson));
+                follow(text, who, lesson + 1, fondNext, stripesNext, failed | (1 << lesson));
             }
         }
     }
